@@ -401,7 +401,11 @@ public final class HookBoard {
         }
         for (int n = known.at + 1; n <= act && n <= acts.count; n++) {
             if (acts.stands(n, act)) {
-                known.follow(acts, n, script);
+                known.follow(acts, n);
+                long seed = acts.fourth[n];
+                for (int i = 0; i < acts.roundsOf(n); i++) {
+                    seed = known.turn(script, acts.second[n], acts.third[n], seed);
+                }
             }
         }
         known.at = act;
@@ -570,28 +574,51 @@ public final class HookBoard {
                 int b = taken > 0 ? stack[top - 1] : code[i] % UNIT;
                 int a = taken > 1 ? stack[top - 2] : 0;
                 top -= taken;
-                long made;
-                switch (operation) {
-                    case FACT -> made = b < FACTS ? facts[b] : 0;
-                    case IS -> made = facts[FACT_KIND] == b ? 1 : 0;
-                    case NOT -> made = 1 - b;
-                    case ADD -> made = (long) a + b;
-                    case TAKE -> made = (long) a - b;
-                    case TIMES -> made = (long) a * b;
-                    case OVER -> made = b == 0 ? 0 : Math.floorDiv(a, b);
-                    case LEAST -> made = Math.min(a, b);
-                    case MOST -> made = Math.max(a, b);
-                    case LESS -> made = a < b ? 1 : 0;
-                    case MORE -> made = a > b ? 1 : 0;
-                    case SAME -> made = a == b ? 1 : 0;
-                    case AND -> made = a & b;
-                    case OR -> made = a | b;
-                    default -> made = b;
-                }
+                long made = taken > 1 ? joined(operation, a, b) : told(operation, b);
                 stack[top] = (int) Math.max(-LIMIT, Math.min(LIMIT, made));
                 top++;
             }
             return top < 1 ? 0 : stack[top - 1];
+        }
+
+        private int told(int operation, int b) {
+            switch (operation) {
+                case FACT:
+                    return b >= 0 && b < FACTS ? facts[b] : 0;
+                case IS:
+                    return facts[FACT_KIND] == b ? 1 : 0;
+                case NOT:
+                    return 1 - b;
+                default:
+                    return b;
+            }
+        }
+
+        private static long joined(int operation, int a, int b) {
+            switch (operation) {
+                case ADD:
+                    return (long) a + b;
+                case TAKE:
+                    return (long) a - b;
+                case TIMES:
+                    return (long) a * b;
+                case OVER:
+                    return b == 0 ? 0 : Math.floorDiv(a, b);
+                case LEAST:
+                    return Math.min(a, b);
+                case MOST:
+                    return Math.max(a, b);
+                case LESS:
+                    return a < b ? 1 : 0;
+                case MORE:
+                    return a > b ? 1 : 0;
+                case SAME:
+                    return a == b ? 1 : 0;
+                case AND:
+                    return a & b;
+                default:
+                    return a | b;
+            }
         }
     }
 
@@ -1068,6 +1095,10 @@ public final class HookBoard {
             return voidBy[act] == 0 || voidBy[act] > by;
         }
 
+        int roundsOf(int act) {
+            return type[act] == ROUNDS ? first[act] : 0;
+        }
+
         /** Whether what is known at one ACT only goes on from what was known at another. */
         boolean goesOn(int from, int to) {
             if (from > to) {
@@ -1118,15 +1149,11 @@ public final class HookBoard {
             at = 0;
         }
 
-        void follow(Acts acts, int n, Script script) {
+        /** Follows an ACT, but for ROUNDS, which go by turn(). */
+        void follow(Acts acts, int n) {
             int what = acts.type[n];
             int cell = acts.first[n];
-            if (what == Acts.ROUNDS) {
-                long seed = acts.fourth[n];
-                for (int i = 0; i < acts.first[n]; i++) {
-                    seed = turn(script, acts.second[n], acts.third[n], seed);
-                }
-            } else if (what == Acts.WASH) {
+            if (what == Acts.WASH) {
                 rinse();
             } else if (what == Acts.HOOK && cell < cells) {
                 kindOf[cell] = acts.second[n];
@@ -1147,7 +1174,7 @@ public final class HookBoard {
         }
 
         /** One ROUND; the seed as it is behind it. */
-        private long turn(Script script, int press, int shake, long seed) {
+        long turn(Script script, int press, int shake, long seed) {
             long after = trial.take(this, script, press, shake, seed);
             tug.follow(trial);
             if (greats < great.length) {

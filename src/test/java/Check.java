@@ -21,6 +21,12 @@ final class Check {
         }
     }
 
+    void stopIfWrong() {
+        if (wrong != 0) {
+            finish();
+        }
+    }
+
     /** The tape becomes a text. */
     static void feed(HookBoard board, String text) {
         int size = (text.length() + 19) / 20 * 20;
