@@ -37,7 +37,6 @@ public final class HookBoard {
 
     public HookBoard() {
         tape = new Tape();
-        reader = new Reader(tape);
         acts = new Acts();
         known = new Known();
         odds = new Odds();
@@ -47,6 +46,7 @@ public final class HookBoard {
         patches = new Patches();
         script = new Script();
         spare = new Script();
+        reader = new Reader(tape, spare);
         cells = 1;
         asAct = NONE;
         fault = 0;
@@ -668,8 +668,9 @@ public final class HookBoard {
         int fault = 0;
         int place = NONE;
 
-        Reader(Tape tape) {
+        Reader(Tape tape, Script out) {
             this.tape = tape;
+            this.out = out;
         }
 
         void read(Script script) {
@@ -1480,6 +1481,7 @@ public final class HookBoard {
     private static final class Patches {
         static final int MOST = 12;
         static final int MOST_PULLS = 8;
+        static final int BEYOND_COST = 1000000;
 
         final int[] place = new int[MOST];
         final int[] bears = new int[MOST];
@@ -1521,7 +1523,7 @@ public final class HookBoard {
         int pick(int withReach, int withOpen) {
             reach = withReach;
             open = withOpen;
-            bestCost = Integer.MAX_VALUE;
+            bestCost = BEYOND_COST;
             bestSize = 0;
             best = NONE;
             int every = (1 << count) - 1;

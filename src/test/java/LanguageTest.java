@@ -13,7 +13,7 @@ public final class LanguageTest {
     private static final List<String> REFUSED = List.of("\\bthrow\\b", "\\btry\\b", "\\bcatch\\b", "\\bsynchronized\\b",
         "\\bassert\\b", "->", "::", "\\binstanceof\\b", "\\bstatic\\s*\\{", "\\bthrows\\b", "Exact\\b", "\\bnew \\w+\\(.*\\)\\s*\\{",
         "\\bdouble\\b", "\\bfloat\\b", "\\bprotected\\b", "\\bpackage\\b", "\\bhashCode\\b", "\\btoString\\b",
-        "\\bSystem\\.(?!arraycopy)", "\\bThread\\b", "\\bRandom\\b", "\"\\s*\\+", "\\+\\s*\"", "while \\(true\\)", "for \\(;;\\)");
+        "\\bSystem\\.(?!arraycopy)", "\\bThread\\b", "\\b(Integer|Long)\\.", "\\bRandom\\b", "\"\\s*\\+", "\\+\\s*\"", "while \\(true\\)", "for \\(;;\\)");
 
     public static void main(String[] args) throws IOException {
         Check check = new Check();

@@ -25,6 +25,7 @@ public final class PromiseTest {
         test.chance();
         test.sums();
         test.tableOddsSure();
+        test.fullBoard();
         test.drawCaught();
         test.pullStepLoad();
         test.greatestHung();
@@ -267,6 +268,7 @@ public final class PromiseTest {
         faulty("kind lint stiff 1", 1, 5);
         faulty("kind lints stiff 1 opens 1 tires 0 tears 1;", 0, NONE);
         faulty("kind A stiff 1 opens 1 tires 0 tears 1;kind a stiff 1 opens 1 tires 0 tears 1;", 0, NONE);
+        faulty("kind azAZ stiff 1 opens 1 tires 0 tears 1;", 0, NONE);
         faulty(KINDS + "kind b stiff", 3, 97);
         faulty(KINDS + "catch 1 when is a or is b;", 0, NONE);
         faulty(KINDS + "catch 1 when is a or is c;", 3, 116);
@@ -280,6 +282,10 @@ public final class PromiseTest {
         faulty("catch (((((((1))))))) when all;", 4, 12);
         faulty("catch (((((min(1,2)))))) when all;", 0, NONE);
         faulty("catch ((((((min(1,2))))))) when all;", 4, 15);
+        faulty("catch min(min(min(min(min(min(1,2),2),2),2),2),2) when all;", 0, NONE);
+        faulty("catch min(((((((1))))),2) when all;", 4, 15);
+        faulty("catch max(((((1)))),((((((2)))))) when all;", 4, 25);
+        faulty("catch max((((((1))))),(((((2)))))) + ((((((3)))))) when all;", 0, NONE);
         faulty("catch 1 when not not [ not [ (1) < 2 ]];", 0, NONE);
         faulty("catch 1 when not not [ not [ ((1)) < 2 ]];", 4, 30);
         faulty("catch 1 when [[[[[[all]]]]]];", 0, NONE);
@@ -644,6 +650,10 @@ public final class PromiseTest {
         due("20: sure(1000), none by floors", x.sure(1000), 0);
         due("20: sure(0)", x.sure(0), NONE);
         due("20: sure(1001)", x.sure(1001), NONE);
+        due("18: table(90, 0)", x.table(90, 0), 2);
+        due("20: one too few by floors", x.sure(810), 1);
+        due("20: sure(809)", x.sure(809), 2);
+        due("18: table(30, 0)", x.table(30, 0), 2);
         due("18: table(100, 0)", x.table(100, 0), NONE);
         due("18: table(0, 100)", x.table(0, 100), NONE);
         due("18: table(-1, 0)", x.table(-1, 0), NONE);
@@ -652,6 +662,33 @@ public final class PromiseTest {
         due("18: table(0, 0)", x.table(0, 0), 2);
         due("19: no chance", x.odds(1), 0);
         due("20: sure(1)", x.sure(1), 0);
+    }
+
+    /** All that a BOARD and its ACTS can hold. */
+    private void fullBoard() {
+        HookBoard x = board("kind a stiff 999 opens 9998 tires 0 tears 9999; catch 500 + press * 10 when all;", 8, 8);
+        for (int cell = 0; cell < 64; cell++) {
+            x.hook(cell, 0, 99);
+        }
+        for (int cell = 0; cell < 55; cell++) {
+            x.loops(cell, 9);
+        }
+        due("9: the 120th", x.rounds(10, 99, 0, 0), 120);
+        due("14: listed", x.listed(), 10);
+        due("15: list(9)", x.list(9), 55 * 9998);
+        due("18: table", x.table(50, 0), 64);
+        due("19: odds(55)", x.odds(55), 1L << 30);
+        due("19: odds(56)", x.odds(56), 0);
+        due("19: odds(64)", x.odds(64), 0);
+        due("19: odds(65)", x.odds(65), NONE);
+        due("20: sure", x.sure(1000), 55);
+        due("21: draw", x.draw(50, 0, 1), 55);
+        due("23: pull", x.pull(), 55);
+        due("26: greatest", x.greatest(), 55 * 9998);
+        due("27: hung", x.hung(55 * 9998), 55);
+        due("28: peel", x.peel(true, 0x9991), 2);
+        due("29: front", x.front(0, 1), 8 * 9998 * 28);
+        due("30: work", x.work(), 8 * 9998 * 28 * 2);
     }
 
     // Promises 21 and 22
