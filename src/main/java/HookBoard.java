@@ -77,11 +77,15 @@ public final class HookBoard {
     }
 
     public int text(int wide, int high) {
-        if (!within(wide, 1, SIDE) || !within(high, 1, SIDE)) {
+        boolean canBe = within(wide, 1, SIDE) && within(high, 1, SIDE);
+        if (canBe) {
+            reader.read(spare);
+        }
+        // The document lets the tape go whatever the answer is, so no return may stand ahead of this.
+        tape.size = 0;
+        if (!canBe) {
             return BAD_BOARD;
         }
-        reader.read(spare);
-        tape.size = 0;
         fault = reader.fault;
         faultPlace = reader.place;
         if (fault != 0) {

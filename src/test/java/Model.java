@@ -298,11 +298,11 @@ final class Model {
     }
 
     int text(int w, int h) {
+        ModelText read = new ModelText(tape.toString());
+        tape.setLength(0);
         if (w < 1 || w > 8 || h < 1 || h > 8) {
             return -2;
         }
-        ModelText read = new ModelText(tape.toString());
-        tape.setLength(0);
         fault = 0;
         place = -1;
         try {

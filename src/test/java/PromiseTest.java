@@ -126,10 +126,13 @@ public final class PromiseTest {
         due("4: pull", x.pull(), 1);
         due("4: peel", x.peel(true, 1), 1);
         due("4: a fault", Check.text(x, "kind", 3, 3), NONE);
-        Check.feed(x, "lint 1 when all;");
+        due("4: the tape goes with a fault", x.end(1), false);
         int[][] cant = {{0, 1}, {1, 0}, {9, 1}, {1, 9}, {-1, 1}, {1, -1}, {Integer.MAX_VALUE, 2}};
         for (int[] size : cant) {
-            due("4: text(" + size[0] + ", " + size[1] + ")", x.text(size[0], size[1]), -2);
+            String call = "4: text(" + size[0] + ", " + size[1] + ")";
+            due(call, Check.text(x, "lint 1 when all;", size[0], size[1]), -2);
+            due("4: the tape goes with " + call, x.end(1), false);
+            due(call + " of no bytes", x.text(size[0], size[1]), -2);
         }
         due("4: fault(0) stays", x.fault(0), 1);
         due("4: fault(1) stays", x.fault(1), 4);
@@ -141,7 +144,9 @@ public final class PromiseTest {
         due("4: caught stays", x.caught(0), 1);
         due("4: greatest stays", x.greatest(), 100);
         due("4: work stays", x.work(), 100);
-        due("4: the tape stays with -2", x.text(1, 1), 1);
+        due("4: feed behind -2", x.feed(0x6c696e74, 0x20312077, 0x68656e20, 0x616c6c3b, 0x20202020), 20);
+        due("4: text behind -2", x.text(1, 1), 1);
+        due("4: the tape goes", x.end(1), false);
         int[] goes = {1, 0, 0, 0, 0, 1, 1};
         for (int what = 0; what < goes.length; what++) {
             due("4: all(" + what + ") goes", x.all(what), goes[what]);
