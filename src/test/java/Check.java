@@ -46,4 +46,13 @@ final class Check {
         feed(board, text);
         return board.text(wide, high);
     }
+
+    /** A new object with a text that has no fault. */
+    static HookBoard board(String text, int wide, int high) {
+        HookBoard board = new HookBoard();
+        if (text(board, text, wide, high) < 0) {
+            throw new IllegalStateException("fault " + board.fault(0) + " at " + board.fault(1) + " of " + text);
+        }
+        return board;
+    }
 }

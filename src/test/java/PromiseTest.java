@@ -47,11 +47,7 @@ public final class PromiseTest {
     }
 
     private static HookBoard board(String text, int wide, int high) {
-        HookBoard x = new HookBoard();
-        if (Check.text(x, text, wide, high) < 0) {
-            throw new IllegalStateException("fault " + x.fault(0) + " at " + x.fault(1) + " of " + text);
-        }
-        return x;
+        return Check.board(text, wide, high);
     }
 
     // Promise 1
