@@ -186,6 +186,20 @@ public final class EdgesOfPullsTest {
         HookBoard x = many(PLAIN + ALWAYS, 2, 1, 2);
         x.table(0, 0);
         due("20: two for sure", x.sure(1000), 2);
+        // two by halves: 1/4, 1/2, 1/4 without a rest
+        HookBoard y = many(PLAIN + "catch 500 when all;", 2, 1, 2);
+        y.table(0, 0);
+        int[][] due = {{1, 2}, {250, 2}, {251, 1}, {750, 1}, {751, 0}, {1000, 0}};
+        for (int[] d : due) {
+            due("20: sure(" + d[0] + ")", y.sure(d[0]), d[1]);
+        }
+        for (int chance = 100; chance < 1000; chance += 100) {
+            HookBoard z = many(PLAIN + "catch " + chance + " when all;", 2, 1, 2);
+            z.table(0, 0);
+            int share = chance * chance / 1000;
+            long both = ONE * chance / 1000 * chance / 1000;
+            due("20: two, or just too few by floors", z.sure(share), both >= ONE * share / 1000 ? 2 : 1);
+        }
     }
 
     // Promise 20: "NONE without one, or when a number can't be"; II: "a share p (1 .. 1000)"
@@ -376,6 +390,9 @@ public final class EdgesOfPullsTest {
         loads(pulled(new int[] {2, 6, 0}, new int[] {5, 7, 2}), new long[] {22, 2}, new long[] {35, 5});
         // at 7 / 2 the other one bears 3 * 7 / 2
         loads(pulled(new int[] {2, 7, 0}, new int[] {3, 30, 0}), new long[] {14 + 21, 2}, new long[] {90, 3});
+        // those told last give first, each with a SLACK of its own: at 7, 10, 25
+        loads(pulled(new int[] {1, 20, 5}, new int[] {2, 12, 4}, new int[] {1, 4, 3}), new long[] {4 + 6 + 2, 1},
+            new long[] {24 + 10, 2}, new long[] {20, 1});
         // STIFFNESS, not stiff, stands below
         HookBoard x = many("kind a stiff 10 opens 6 tires 0 tears 9;" + ALWAYS, 1, 1, 1);
         for (int n = 0; n < 40; n++) {

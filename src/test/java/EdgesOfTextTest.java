@@ -240,7 +240,7 @@ public final class EdgesOfTextTest {
         x.draw(0, 0, 0);
         x.pull();
         x.peel(true, 1);
-        x.as(1);
+        x.as(0);
         Check.text(x, "kind a" + REST, 1, 1);
         nothingMade(x);
         due("4: ACTS go", x.all(2), 0);
