@@ -114,6 +114,19 @@ public final class EdgesOfActsTest {
         due("8: without a HOOK", x.cell(63, 4), 9);
         due("8: the last that was told", x.loops(63, 0), acts + 1);
         due("8: LOOPS 0 again", x.cell(63, 4), 0);
+        HookBoard y = Check.board(PLAIN + ALWAYS, 8, 2);
+        for (int cell = 0; cell < 16; cell++) {
+            y.loops(cell, cell % 10);
+        }
+        y.rounds(1, 7, 8, 9);
+        y.rounds(10, 3, 4, 5);
+        y.hook(4, 0, 9);
+        y.wash();
+        y.annul(16);
+        for (int cell = 0; cell < 16; cell++) {
+            due("8: other ACTS leave LOOPS", y.cell(cell, 4), cell < 15 ? cell % 10 : 0);
+            due("7: other ACTS leave HOOKS", y.cell(cell, 0), cell == 4 ? 0 : NONE);
+        }
     }
 
     // Promise 9; I: "ROUNDS (1 .. 10) with a PRESS, a SHAKE, a seed (0 .. 2147483647)"
