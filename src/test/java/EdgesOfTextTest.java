@@ -757,5 +757,6 @@ public final class EdgesOfTextTest {
             nested = i % 2 == 0 ? "1+2*(" + nested + ")" : "1+1*max(1,0+1*" + nested + ")";
         }
         chance("catch " + nested + " when [all and [all and 1+1*(1+1*(1+1*(1+1*1)))=5]];", 22);
+        chance(RULE.repeat(22) + "catch " + "1+1*max(1,".repeat(6) + "1+1*1" + ")".repeat(6) + " when all;", 8);
     }
 }
